@@ -9,6 +9,7 @@ public final class EchoesTest {
         endsAtTheLastMoment();
         rowsAreAdded();
         equalMoments();
+        softestEcho();
         noEcho();
         dustAndDamping();
         wrongCalls();
@@ -103,6 +104,16 @@ public final class EchoesTest {
         far.addSurface(0, 59, 2);
         far.addSurface(0, 60, 1);
         Check.equal("loudestMoment by the sum", far.loudestMoment(0, 1000), 360);
+    }
+
+    private static void softestEcho() {
+        EchoBureau b = new EchoBureau();
+        b.addHall(0);
+        b.addSurface(0, 7, 50);
+        Check.equal("loudestMoment of an echo as loud as 1", b.loudestMoment(0, 2), 42);
+        Check.equal("firstEcho of an echo as loud as 1", b.firstEcho(0, 2), 42);
+        Check.equal("lastEcho of an echo as loud as 1", b.lastEcho(0, 2), 42);
+        Check.equal("loudEchoes of an echo as loud as 1", b.loudEchoes(0, 2, 1), 1);
     }
 
     private static void noEcho() {

@@ -61,6 +61,7 @@ public final class HallsTest {
         Check.refused(b, "addHall(0), the 9th", Check.STATE, () -> b.addHall(0));
         Check.refused(b, "addHall(91), the 9th", Check.ARGUMENT, () -> b.addHall(91));
         Check.equal("halls() when full", b.halls(), 8);
+        Check.refused(b, "dampingOf(8), full", Check.INDEX, () -> b.dampingOf(8));
         EchoBureau late = new EchoBureau();
         late.passDays(50);
         late.addHall(5);
@@ -81,6 +82,9 @@ public final class HallsTest {
             Check.equal("hardnessOf(1, " + i + ")", b.hardnessOf(1, i), good[i][1]);
         }
         Check.refused(b, "addSurface, the 7th", Check.STATE, () -> b.addSurface(1, 1, 1));
+        Check.refused(b, "distanceOf(1, 6), full", Check.INDEX, () -> b.distanceOf(1, 6));
+        Check.refused(b, "hardnessOf(1, 6), full", Check.INDEX, () -> b.hardnessOf(1, 6));
+        Check.refused(b, "moveSurface(1, 6, 1), full", Check.INDEX, () -> b.moveSurface(1, 6, 1));
         Check.equal("surfacesOf(0)", b.surfacesOf(0), 0);
         Check.equal("addSurface(0, 5, 5)", b.addSurface(0, 5, 5), 0);
     }

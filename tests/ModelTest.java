@@ -80,7 +80,7 @@ public final class ModelTest {
 
     private void run(int run) {
         for (int call = 0; call < CALLS; call++) {
-            // Few changes in some runs, so that halls stay small and standards are met.
+            // Runs start with halls, surfaces and standards, so that the calls behind have something to ask about.
             int kind = call < 12 ? new int[] {0, 1, 6}[any(3)] : any(KINDS);
             step(run, call, kind);
             both(run, call, "digest", bureau::digest, model::digest);

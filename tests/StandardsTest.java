@@ -33,6 +33,7 @@ public final class StandardsTest {
             Check.equal("addStandard no. " + i, b.addStandard(r[0], r[1], r[2], r[3], r[4]), i);
             Check.equal("standards()", b.standards(), i + 1);
         }
+        Check.refused(b, "hallsMeeting(5), full", Check.INDEX, () -> b.hallsMeeting(5));
         Check.refused(b, "addStandard, the 6th", Check.STATE, () -> b.addStandard(0, 1, 0, 0, 1));
         for (int[] w : wrong) {
             Check.refused(b, "addStandard of a wrong one, the 6th", Check.ARGUMENT,
@@ -40,12 +41,12 @@ public final class StandardsTest {
         }
     }
 
-    /** Two echoes of a click of 1000: at 60 as loud as 30, at 120 as loud as 0.9, which is none: just one. */
+    /** The hall has just two echoes, so that each bound can be one off. */
     private static void meetsEdges() {
         EchoBureau b = new EchoBureau();
         b.addHall(0);
         b.addSurface(0, 10, 9);
-        // 1000 -> 90 at 60 -> 8 at 120 -> 0
+        // 90 at 60, 8 at 120, none at 180
         Check.equal("echoes", b.echoes(0, 1000), 2);
         b.addStandard(60, 1, 99, 120, 1);
         b.addStandard(61, 1, 99, 120, 1);

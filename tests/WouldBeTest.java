@@ -6,6 +6,7 @@ public final class WouldBeTest {
         daysUntilMet();
         daysUntilMetAtMost();
         easiestHall();
+        easiestHallEdges();
         nothingIsChanged();
         meanDamping();
         digest();
@@ -102,6 +103,32 @@ public final class WouldBeTest {
         }
     }
 
+    private static void easiestHallEdges() {
+        EchoBureau b = oneLoudEcho();
+        b.addHall(0);
+        Check.equal("easiestHall, the second at once", b.easiestHall(0), 1);
+        b.addSurface(1, 10, 95);
+        Check.equal("easiestHall, the first", b.easiestHall(0), 0);
+        b.addStandard(0, 91, 0, 3000, 10);
+        b.addStandard(0, 900, 0, 3000, 10);
+        b.addStandard(0, 951, 0, 3000, 10);
+        Check.equal("easiestHall, just with 90", b.easiestHall(1), 0);
+        Check.equal("easiestHall, with 1", b.easiestHall(2), 0);
+        Check.equal("easiestHall, both with 0 and the first one with more to spare", b.easiestHall(3), 0);
+        b.setDamping(1, 90);
+        b.moveSurface(1, 0, 20);
+        b.addHall(90);
+        b.addSurface(2, 10, 80);
+        Check.equal("easiestHall, the third with 0 and the first with 1", b.easiestHall(2), 2);
+        EchoBureau other = new EchoBureau();
+        other.addHall(0);
+        other.addHall(0);
+        other.addSurface(0, 10, 95);
+        other.addSurface(1, 10, 90);
+        other.addStandard(0, 951, 0, 3000, 10);
+        Check.equal("easiestHall, both with 0 and the second one with more to spare", other.easiestHall(0), 0);
+    }
+
     private static void nothingIsChanged() {
         EchoBureau b = oneLoudEcho();
         b.addHall(0);
@@ -128,6 +155,9 @@ public final class WouldBeTest {
         Check.equal("meanDamping() of none", b.meanDamping(), 0.0);
         b.addHall(0);
         Check.equal("meanDamping() of 0", b.meanDamping(), 0.0);
+        EchoBureau one = new EchoBureau();
+        one.addHall(37);
+        Check.equal("meanDamping() of 37", one.meanDamping(), 37.0);
         b.addHall(1);
         Check.equal("meanDamping() of 0, 1", b.meanDamping(), 0.5);
         b.addHall(90);

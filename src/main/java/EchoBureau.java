@@ -613,7 +613,6 @@ public final class EchoBureau {
             last = NONE;
         }
 
-        @Override
         public void hear(int moment, int loudness) {
             count++;
             if (loudness >= limit) {
@@ -636,7 +635,6 @@ public final class EchoBureau {
             Arrays.fill(added, 0);
         }
 
-        @Override
         public void hear(int moment, int loudness) {
             int place = moment / TIME_A_DISTANCE;
             if (place >= 0 && place < added.length) {
