@@ -2,13 +2,15 @@ import java.util.function.Supplier;
 
 /** All promises: long runs of calls, each answered by the class and by the model of the document. */
 public final class ModelTest {
-    private static final int RUNS = 400;
+    private static final int RUNS = 600;
+    /** An object is used for so many calls: those of a run, its digests among them, are no more. */
     private static final int CALLS = 512;
     private static final int KINDS = 36;
     private static final int[] ODD = {Integer.MIN_VALUE, Integer.MIN_VALUE + 1, -1000, -1, 0, 1, 5, 6, 8, 60, 61, 90,
         91, 99, 100, 101, 500, 501, 1000, 1001, 3000, 3001, Integer.MAX_VALUE - 1, Integer.MAX_VALUE};
 
     private long seed;
+    private int made;
     private final EchoBureau bureau = new EchoBureau();
     private final Model model = new Model();
 
@@ -71,6 +73,7 @@ public final class ModelTest {
     }
 
     private void both(int run, int call, String name, Supplier<Object> got, Supplier<Object> due) {
+        made++;
         String is = answer(got);
         String should = answer(due);
         if (!is.equals(should)) {
@@ -79,11 +82,14 @@ public final class ModelTest {
     }
 
     private void run(int run) {
-        for (int call = 0; call < CALLS; call++) {
+        // A step makes up to three calls, and the last call of all is behind the loop.
+        for (int call = 0; made < CALLS - 3; call++) {
             // Runs start with halls, surfaces and standards, so that the calls behind have something to ask about.
             int kind = call < 12 ? new int[] {0, 1, 6}[any(3)] : any(KINDS);
             step(run, call, kind);
-            both(run, call, "digest", bureau::digest, model::digest);
+            if (any(3) == 0) {
+                both(run, call, "digest", bureau::digest, model::digest);
+            }
         }
         Check.equal("day() of run " + run, bureau.day(), model.day);
     }

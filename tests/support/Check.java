@@ -10,8 +10,14 @@ final class Check {
 
     private static int checks = 0;
     private static int wrong = 0;
+    private static String about = "";
 
     private Check() {
+    }
+
+    /** What the checks from now on are about: reports name it. */
+    static void about(String what) {
+        about = what + ": ";
     }
 
     static void equal(String call, long got, long due) {
@@ -36,10 +42,9 @@ final class Check {
         equal(call, got ? 1 : 0, 0);
     }
 
-    /** The call throws just this exception, and the object's digest stays as it was. */
-    static void refused(EchoBureau bureau, String call, Class<? extends RuntimeException> due, Call run) {
+    /** The call throws just this exception. */
+    static void thrown(String call, Class<? extends RuntimeException> due, Call run) {
         checks++;
-        long before = bureau.digest();
         Class<?> got = null;
         try {
             run.run();
@@ -49,12 +54,18 @@ final class Check {
         if (got != due) {
             report(call + " threw " + got + ", due is " + due);
         }
+    }
+
+    /** The call throws just this exception, and the object's digest stays as it was. */
+    static void refused(EchoBureau bureau, String call, Class<? extends RuntimeException> due, Call run) {
+        long before = bureau.digest();
+        thrown(call, due, run);
         equal("digest() behind " + call, bureau.digest(), before);
     }
 
     static void report(String text) {
         wrong++;
-        System.out.println(text);
+        System.out.println(about + text);
     }
 
     static void end() {
