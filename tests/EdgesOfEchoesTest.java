@@ -343,6 +343,11 @@ public final class EdgesOfEchoesTest {
         Check.equal("loudestMoment(0, 2)", Bureaus.ofOneSurface(0, 60, 50).loudestMoment(0, 2), 360);
     }
 
+    private static void promise21LoudestMomentComesFrom6On() {
+        Check.equal("loudestMoment of distance 1", Bureaus.ofOneSurface(0, 1, 50).loudestMoment(0, 1000), 6);
+        Check.equal("loudestMoment of distance 60", Bureaus.ofOneSurface(0, 60, 50).loudestMoment(0, 1000), 360);
+    }
+
     private static void promise21LoudestMomentOfSeveralIsTheFirst() {
         EchoBureau b = Bureaus.ofOneSurface(0, 60, 50);
         b.addSurface(0, 50, 50);

@@ -141,7 +141,10 @@ public final class EdgesOfStandardsTest {
 
     private static void promise8InspectOfTheLastHallAndTheLastStandard() {
         EchoBureau b = Bureaus.full();
-        Check.yes("inspect(7, 4)", b.inspect(7, 4));
+        Check.no("inspect(7, 4)", b.inspect(7, 4));
+        Check.equal("certifiedBy(7)", b.certifiedBy(7), 2);
+        b.setDamping(7, 90);
+        Check.yes("inspect(7, 4), damped", b.inspect(7, 4));
         Check.equal("certifiedBy(7)", b.certifiedBy(7), 4);
         Check.equal("daysLeft(7)", b.daysLeft(7), 14);
     }

@@ -219,16 +219,35 @@ public final class EdgesOfWouldBeTest {
         Check.equal("easiestHall(0), none", b.easiestHall(0), -1);
     }
 
-    /** The limit of 801 is met by hardness 80 with damping 0, by 81 with damping 2: by one with less damping now. */
-    private static void promise35EasiestHallIsOfTheLeastDampingWhateverItIsNow() {
+    /** Below 804 are 820 with the damping 2 (803), 810 with 1 (801) and 800 with 0. */
+    private static void promise35EasiestHallIsOfTheLeastDamping() {
         EchoBureau b = new EchoBureau();
-        b.addStandard(0, 801, 0, 3000, 10);
+        b.addStandard(0, 804, 0, 3000, 10);
+        for (int hall = 0; hall < 3; hall++) {
+            b.addHall(0);
+            b.addSurface(hall, 60, 82 - hall);
+            Check.equal("leastDamping(" + hall + ", 0)", b.leastDamping(hall, 0), 2 - hall);
+            Check.equal("easiestHall(0)", b.easiestHall(0), hall);
+        }
+    }
+
+    private static void promise35EasiestHallOfTwoWithoutDampingIsTheFirst() {
+        EchoBureau b = new EchoBureau();
+        b.addStandard(0, 804, 0, 3000, 10);
+        b.addHall(0);
+        b.addHall(0);
+        b.addSurface(0, 60, 80);
+        b.addSurface(1, 60, 10);
+        Check.equal("easiestHall(0)", b.easiestHall(0), 0);
+    }
+
+    private static void promise35EasiestHallIsAskedWhateverTheDampingIsNow() {
+        EchoBureau b = new EchoBureau();
+        b.addStandard(0, 804, 0, 3000, 10);
         b.addHall(90);
         b.addHall(0);
         b.addSurface(0, 60, 81);
         b.addSurface(1, 60, 80);
-        Check.equal("leastDamping(0, 0)", b.leastDamping(0, 0), 2);
-        Check.equal("leastDamping(1, 0)", b.leastDamping(1, 0), 0);
         Check.equal("easiestHall(0)", b.easiestHall(0), 1);
         b.setDamping(0, 0);
         b.setDamping(1, 90);
@@ -340,42 +359,43 @@ public final class EdgesOfWouldBeTest {
         numbers[2] = day;
         int at = 5;
         for (int damping : dampings) {
-            long[] hall = {0, damping, day, -1, 0};
-            System.arraycopy(hall, 0, numbers, at, hall.length);
-            at += hall.length;
+            at = put(numbers, at, 0, damping, day, -1, 0);
         }
         for (int i = 0; i < dampings.length; i++) {
-            long[] silence = {0, -1, -1, -1};
-            System.arraycopy(silence, 0, numbers, at, silence.length);
-            at += silence.length;
+            at = put(numbers, at, 0, -1, -1, -1);
         }
         return mixed(numbers);
     }
 
+    /** The standards 0, 2, 3, 0, 1 and 2 are those of the certificates. */
     private static void promise37DigestOfAFullBureau() {
         EchoBureau b = Bureaus.full();
-        StringBuilder numbers = new StringBuilder();
-        numbers.append("8 5 3 6 ").append(b.certifiedHalls());
+        int[] certificates = {0, -1, 2, 3, -1, 0, 1, 2};
+        int[] daysLeft = {7, 0, 9, 10, 0, 7, 8, 9};
+        int[] echoes = {60, 46, 42, 37, 33, 29, 24, 20};
+        int[] last = {504, 780, 1080, 1296, 1428, 1476, 1440, 1320};
+        String[] met = {"10001", "10001", "10100", "11110", "11110", "11110", "11110", "11110"};
+        long[] due = new long[5 + 8 * 17 + 8 * 9];
+        int at = put(due, 0, 8, 5, 3, 8, 6);
         for (int hall = 0; hall < 8; hall++) {
-            numbers.append(" 6 ").append(10 * hall).append(" 3 ");
-            numbers.append(b.isCertified(hall) ? b.certifiedBy(hall) : -1).append(' ').append(b.daysLeft(hall));
+            at = put(due, at, 6, 10 * hall, 3, certificates[hall], daysLeft[hall]);
             for (int surface = 0; surface < 6; surface++) {
-                numbers.append(' ').append(1 + 7 * hall + surface).append(' ').append(40 + 5 * surface + hall);
+                at = put(due, at, 1 + 7 * hall + surface, 40 + 5 * surface + hall);
             }
         }
         for (int hall = 0; hall < 8; hall++) {
-            numbers.append(' ').append(b.echoes(hall, 1000)).append(' ').append(b.firstEcho(hall, 1000));
-            numbers.append(' ').append(b.lastEcho(hall, 1000)).append(' ').append(b.loudestMoment(hall, 1000));
+            at = put(due, at, echoes[hall], 6 + 42 * hall, last[hall], b.loudestMoment(hall, 1000));
             for (int standard = 0; standard < 5; standard++) {
-                numbers.append(b.meets(hall, standard) ? " 1" : " 0");
+                at = put(due, at, met[hall].charAt(standard) - '0');
             }
         }
-        String[] texts = numbers.toString().split(" ");
-        long[] due = new long[texts.length];
-        for (int i = 0; i < due.length; i++) {
-            due[i] = Long.parseLong(texts[i]);
-        }
+        Check.equal("numbers", at, due.length);
         Check.equal("digest()", b.digest(), mixed(due).longValue());
+    }
+
+    private static int put(long[] numbers, int at, long... more) {
+        System.arraycopy(more, 0, numbers, at, more.length);
+        return at + more.length;
     }
 
     private static void promise37DigestChangesNothing() {

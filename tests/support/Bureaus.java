@@ -33,20 +33,23 @@ final class Bureaus {
         return b;
     }
 
-    /** Eight halls of six surfaces and five standards, on the day 3; the halls 0, 1, 2, 5, 6 and 7 have certificates. */
+    /**
+     * Eight halls of six surfaces and five standards, on the day 3. Each hall was inspected; all but the halls 1 and 4
+     * have a certificate. All hardnesses are as built still.
+     */
     static EchoBureau full() {
         EchoBureau b = new EchoBureau();
-        for (int standard = 0; standard < 5; standard++) {
-            b.addStandard(0, 1000 - 100 * standard, standard * 10, 3000, 10 + standard);
-        }
+        b.addStandard(0, 1, 99, 3000, 10);
+        b.addStandard(100, 200, 9, 3000, 11);
+        b.addStandard(0, 300, 6, 1500, 12);
+        b.addStandard(50, 1, 40, 2000, 13);
+        b.addStandard(0, 100, 20, 1000, 14);
         for (int hall = 0; hall < 8; hall++) {
             b.addHall(10 * hall);
             for (int surface = 0; surface < 6; surface++) {
                 b.addSurface(hall, 1 + 7 * hall + surface, 40 + 5 * surface + hall);
             }
-            if (hall % 5 < 3) {
-                b.inspect(hall, hall % 5);
-            }
+            b.inspect(hall, hall % 5);
         }
         b.passDays(3);
         return b;
