@@ -60,6 +60,16 @@ public final class EdgesOfWouldBeTest {
         Check.yes("meetsWithDamping(0, 0, 90)", b.meetsWithDamping(0, 0, 90));
     }
 
+    private static void promise32MeetsWithDampingUnderTheDustThatIsNow() {
+        EchoBureau b = oneLoud(900);
+        b.passDays(4);
+        Check.no("dust 4", b.meetsWithDamping(0, 0, 0));
+        b.passDays(1);
+        Check.yes("dust 5", b.meetsWithDamping(0, 0, 0));
+        b.clean(0);
+        Check.no("clean", b.meetsWithDamping(0, 0, 0));
+    }
+
     private static void promise32MeetsWithDampingChangesNothing() {
         Refusal.unchanged("meetsWithDamping(0, 0, 90)", Bureaus::some, b -> b.meetsWithDamping(0, 0, 90));
         Refusal.unchanged("meetsWithDamping(7, 4, 0)", Bureaus::full, b -> b.meetsWithDamping(7, 4, 0));
@@ -102,6 +112,16 @@ public final class EdgesOfWouldBeTest {
         EchoBureau b = forSilentOnes();
         b.addHall(90);
         Check.equal("leastDamping(0, 0)", b.leastDamping(0, 0), 0);
+    }
+
+    private static void promise33LeastDampingUnderTheDustThatIsNow() {
+        EchoBureau b = oneLoud(900);
+        b.passDays(4);
+        Check.equal("leastDamping(0, 0), dust 4", b.leastDamping(0, 0), 1);
+        b.passDays(1);
+        Check.equal("leastDamping(0, 0), dust 5", b.leastDamping(0, 0), 0);
+        b.clean(0);
+        Check.equal("leastDamping(0, 0), clean", b.leastDamping(0, 0), 1);
     }
 
     private static void promise33LeastDampingChangesNothing() {
@@ -171,6 +191,17 @@ public final class EdgesOfWouldBeTest {
         EchoBureau b = forSilentOnes();
         b.addHall(0);
         Check.equal("daysUntilMet(0, 0)", b.daysUntilMet(0, 0), 0);
+    }
+
+    /** 900 * 50 / 100 is 450, 890 * 50 / 100 is 445, and 900 * 49 / 100 is 441. */
+    private static void promise34DaysUntilMetWithTheDampingThatIsNow() {
+        EchoBureau b = oneLoud(450);
+        b.setDamping(0, 50);
+        Check.equal("daysUntilMet(0, 0), damping 50", b.daysUntilMet(0, 0), 5);
+        b.setDamping(0, 51);
+        Check.equal("daysUntilMet(0, 0), damping 51", b.daysUntilMet(0, 0), 0);
+        b.setDamping(0, 0);
+        Check.equal("daysUntilMet(0, 0), undamped", b.daysUntilMet(0, 0), -1);
     }
 
     private static void promise34DaysUntilMetChangesNothing() {
@@ -252,6 +283,22 @@ public final class EdgesOfWouldBeTest {
         b.setDamping(0, 0);
         b.setDamping(1, 90);
         Check.equal("easiestHall(0), dampings exchanged", b.easiestHall(0), 1);
+    }
+
+    /** As hard as 80 both, they need the damping 1; under the dust 5 one of them needs none. */
+    private static void promise35EasiestHallUnderTheDustThatIsNow() {
+        EchoBureau b = new EchoBureau();
+        b.addStandard(0, 800, 0, 3000, 10);
+        for (int hall = 0; hall < 2; hall++) {
+            b.addHall(0);
+            b.addSurface(hall, 60, 80);
+        }
+        b.passDays(5);
+        Check.equal("easiestHall(0), dust in both", b.easiestHall(0), 0);
+        b.clean(0);
+        Check.equal("easiestHall(0), dust in the hall 1", b.easiestHall(0), 1);
+        b.clean(1);
+        Check.equal("easiestHall(0), both clean", b.easiestHall(0), 0);
     }
 
     private static void promise35EasiestHallChangesNothing() {
